@@ -239,7 +239,7 @@ public final class LastMatches {
     }
 
     public int image(int i) {
-        if (i < 0 || i >= images.length || i >= kept.length || images[i] == null) {
+        if (!isImage(i)) {
             return counted(BAD);
         }
         images[i].copyFrom(now);
@@ -248,7 +248,7 @@ public final class LastMatches {
     }
 
     public int from(int i) {
-        if (i < 0 || i >= images.length || i >= kept.length || images[i] == null) {
+        if (!isImage(i)) {
             return counted(BAD);
         }
         if (!kept[i]) {
@@ -302,6 +302,10 @@ public final class LastMatches {
     private int countedTen() {
         badCalls++;
         return BAD_AS_TEN;
+    }
+
+    private boolean isImage(int i) {
+        return i >= 0 && i < images.length && i < kept.length && images[i] != null;
     }
 
     private void setFraction(long ofWhole) {

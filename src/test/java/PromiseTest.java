@@ -260,6 +260,13 @@ public final class PromiseTest {
         dueRead(";", -10);
         dueRead("7;", -10);
         dueRead("  windy 3;", -12);
+        dueRead("windz 3;", -10);
+        dueRead("awind 3;", -10);
+        dueRead("wxnd 3;", -10);
+        dueRead("wind{3;", -14);
+        dueRead("wind`3;", -14);
+        dueRead("wind/3;", -14);
+        dueRead("wind:3;", -14);
         dueRead("win", -10);
         dueRead("Wind 3;", -10);
         dueRead("winD 3;", -10);
@@ -614,6 +621,7 @@ public final class PromiseTest {
         due("c", x.waits(0, 0, 11), -2);
         due("c", x.waits(0, 0, -1), -2);
         due("bad ones", x.status(0), 6);
+        due("the most of each", x.waits(5, 10, 10), 1);
         x.clearing(3, 5);
         x.clearing(2, 0);
         due("by BEST", x.waits(0, 7, 0), 0);
@@ -718,6 +726,7 @@ public final class PromiseTest {
         due("third", x.feed(4, 3, 7, 9, 2), 8);
         due("not so many", x.feed(4, 3, 7, 9, 3), -5);
         due("just enough", x.feed(4, 3, 7, 8, -1), 2);
+        due("the most of each", x.feed(99, 9, 99, 99, -1), 8);
         due("no more than b", x.feed(99, 1, 2, 3, 0), 2);
         due("each hour", x.feed(0, 9, 1, 99, -1), 99);
         due("the last hour", x.feed(0, 9, 1, 99, 98), 98);
@@ -784,6 +793,10 @@ public final class PromiseTest {
         due("third", x.evenings(3, 0), 1);
         x.carry(0, 7);
         due("68 by 70", x.evenings(2, 0), 2);
+        x.carry(0, 0);
+        due("0 is not less than 0", x.evenings(1, 0), 0);
+        due("the last seed", x.evenings(60, 999999), 0);
+        x.carry(0, 7);
         due("88 by 70", x.evenings(3, 0), 2);
         due("no evening", x.evenings(0, 999999), 0);
         x.match(2, 10, 5);
